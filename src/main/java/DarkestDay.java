@@ -734,7 +734,7 @@ public final class DarkestDay {
         private boolean readsClause(Tape tape) {
             int clause = tape.nextSign();
             int counter = clause == 's' ? RULES : clause == 'k' ? KINDS : clause == 'p' ? PERSONS : NONE;
-            int most = clause == 's' ? 1 : MOST_KINDS;
+            int most = clause == 's' ? 1 : clause == 'k' ? MOST_KINDS : MOST_PERSONS;
             int index = get(counter);
             if (counter == NONE || index >= most) {
                 return false;

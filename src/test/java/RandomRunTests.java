@@ -11,6 +11,7 @@ import java.util.Random;
 /** Random runs of calls on the class and on the plain model: every answer must be the same. */
 public final class RandomRunTests {
     private static final int MOST_CALLS = 512;
+    private static final int NONE_ASKED = -1;
     private static final Map<String, Method> MODEL = new HashMap<>();
     private static final List<Method> FACE = new ArrayList<>();
 
@@ -63,7 +64,7 @@ public final class RandomRunTests {
         if (random.nextInt(12) == 0 && !nearsTheLastYear()) {
             return false;
         }
-        while (calls.size() < most - 20) {
+        while (calls.size() < most - 60) {
             int choice = random.nextInt(40);
             boolean fine;
             if (choice == 0) {
@@ -72,6 +73,8 @@ public final class RandomRunTests {
                 fine = tells(1 + random.nextInt(2));
             } else if (choice < 9) {
                 fine = same("pass");
+            } else if (choice == 9) {
+                fine = sweeps();
             } else {
                 fine = anyCall(FACE.get(random.nextInt(FACE.size())));
             }
@@ -205,6 +208,24 @@ public final class RandomRunTests {
             default:
                 return random.nextInt(8) - (random.nextInt(8) == 0 ? 1 : 0);
         }
+    }
+
+    /** Asks for all kinds and for all pairs of two of the persons. */
+    private boolean sweeps() throws Exception {
+        for (int kind = 0; kind < model.count(1); kind++) {
+            if (!same("swings", kind) || !same("bedding", kind)) {
+                return false;
+            }
+        }
+        int one = random.nextInt(Math.max(1, model.count(0)));
+        for (int other = 0; other < model.count(0); other++) {
+            for (int i = NONE_ASKED; i < 3; i++) {
+                if (!same("rests", one, other, i)) {
+                    return false;
+                }
+            }
+        }
+        return true;
     }
 
     private boolean asItIs() throws Exception {

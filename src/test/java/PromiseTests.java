@@ -1,18 +1,7 @@
-import java.util.NoSuchElementException;
-
 /** For each promise of the document: ordinary calls, the edges that it names, and wrong calls. */
-public final class PromiseTests {
-    private static final int NONE = -1;
-    private static final int HIDDEN = -1000000;
+public final class PromiseTests extends Checks {
     /* Four days of light 8, 6, 4, 6; two kinds; three persons, of whom the third does the second kind. */
     private static final String FOUR_DAYS = "sd4t20f0;kv3n4;kv5n6;ph0o1;ph0o5;ph1o2";
-    private static final int SEAPORT = 0;
-    private static final int LAW = 1;
-    private static final int CALENDAR = 2;
-
-    private static int promise = 0;
-    private static int passed = 0;
-    private static int failed = 0;
 
     public static void main(String[] args) {
         textPromises();
@@ -23,92 +12,13 @@ public final class PromiseTests {
         seenPromises();
         gamePromises();
         lastPromises();
-        System.out.println("PromiseTests: " + passed + " passed, " + failed + " failed");
-        System.exit(failed == 0 ? 0 : 1);
-    }
-
-    // ---- helps
-
-    private static void due(String what, long got, long want) {
-        if (got == want) {
-            passed++;
-        } else {
-            failed++;
-            System.out.println("promise " + promise + ": " + what + " answered " + got + ", due is " + want);
-        }
-    }
-
-    private static void due(String what, boolean got, boolean want) {
-        due(what, got ? 1 : 0, want ? 1 : 0);
-    }
-
-    private static void fill(DarkestDay x, String text) {
-        x.end(0);
-        for (int i = 0; i < text.length(); i += 20) {
-            int[] words = new int[5];
-            for (int j = i; j < text.length() && j < i + 20; j++) {
-                words[(j - i) / 4] |= text.charAt(j) << 24 - 8 * (j % 4);
-            }
-            x.feed(words[0], words[1], words[2], words[3], words[4]);
-        }
-    }
-
-    private static int tell(DarkestDay x, int sort, String text) {
-        fill(x, text);
-        return x.text(sort);
-    }
-
-    private static DarkestDay port(String text) {
-        DarkestDay x = new DarkestDay();
-        due("text of " + text, tell(x, SEAPORT, text) >= 2, true);
-        return x;
-    }
-
-    private static void fault(int sort, String text, int want) {
-        DarkestDay x = new DarkestDay();
-        fill(x, text);
-        due("the fault of " + text, x.fault(sort), want);
-        due("the bytes of " + text, x.count(5), text.length());
-        int number = sort == SEAPORT ? x.count(0) : 0;
-        due("text of " + text, x.text(sort) == NONE, want != NONE);
-        due("the bytes behind " + text, x.count(5), want == NONE ? 0 : text.length());
-        due("persons behind " + text, x.count(0) == number, sort != SEAPORT || want != NONE);
-    }
-
-    private static int worth(String law) {
-        DarkestDay x = port("sd6f3;kv2;p;p;pb1");
-        due("the law " + law, tell(x, LAW, law), 0);
-        x.law(0);
-        return x.light(4);
-    }
-
-    private static void throwsIt(DarkestDay x, int person, int what) {
-        boolean thrown = false;
-        try {
-            x.person(person, what);
-        } catch (NoSuchElementException e) {
-            thrown = true;
-        }
-        due("person(" + person + ", " + what + ") throws", thrown, true);
-    }
-
-    private static void statuses(DarkestDay x, int missing, int bounds, int so, int coins, int late) {
-        int[] want = {missing, bounds, so, coins, late};
-        for (int i = 0; i < want.length; i++) {
-            due("status(" + i + ")", x.status(i), want[i]);
-        }
-    }
-
-    private static void passes(DarkestDay x, int days) {
-        for (int i = 0; i < days; i++) {
-            x.pass();
-        }
+        finish("PromiseTests");
     }
 
     // ---- promises 1 to 5: the tape and its texts
 
     private static void textPromises() {
-        promise = 1;
+        at = "promise 1";
         DarkestDay x = new DarkestDay();
         int[] fresh = {0, 0, 0, 0, 0, 0, NONE, 0, 0, 0, 0, 0, 0, 2, 0, 0, 0};
         for (int i = 0; i < fresh.length; i++) {
@@ -117,7 +27,7 @@ public final class PromiseTests {
         due("all(3)", x.all(3), HIDDEN);
         statuses(x, 0, 0, 0, 0, 0);
 
-        promise = 2;
+        at = "promise 2";
         due("feed", x.feed(0x6B3B0070, 0, 0x3B700000, 0, 0x20), 6);
         due("fault", x.fault(SEAPORT), NONE);
         due("feed of nothing", x.feed(0, 0, 0, 0, 0), 6);
@@ -130,7 +40,7 @@ public final class PromiseTests {
         due("feed of one too many", x.feed(0, 0, 0, 0, 1), NONE);
         due("feed of nothing", x.feed(0, 0, 0, 0, 0), 240);
 
-        promise = 3;
+        at = "promise 3";
         due("end(241)", x.end(241), false);
         due("end(-1)", x.end(-1), false);
         due("end(240)", x.end(240), true);
@@ -141,14 +51,14 @@ public final class PromiseTests {
         due("end(3)", x.end(3), true);
         due("fault", x.fault(SEAPORT), 3);
 
-        promise = 4;
+        at = "promise 4";
         due("fault(3)", x.fault(3), -2);
         due("fault(-1)", x.fault(-1), -2);
         seaportFaults();
         lawFaults();
         calendarFaults();
 
-        promise = 5;
+        at = "promise 5";
         texts();
     }
 
@@ -309,7 +219,7 @@ public final class PromiseTests {
     // ---- promises 6 to 9
 
     private static void countPromises() {
-        promise = 6;
+        at = "promise 6";
         DarkestDay x = port(FOUR_DAYS);
         int[][] want = {{3, 4, 0, 3}, {5, 6, 0, 4}};
         for (int k = 0; k < 2; k++) {
@@ -331,7 +241,7 @@ public final class PromiseTests {
         due("kind(0, 4)", x.kind(0, 4), HIDDEN);
         due("kind(0, -1)", x.kind(0, -1), HIDDEN);
 
-        promise = 7;
+        at = "promise 7";
         x = port("k;k;ph1o7b1;p");
         int[][] persons = {{1, 7, 1, 0}, {0, 2, 0, 0}};
         for (int p = 0; p < 2; p++) {
@@ -348,10 +258,10 @@ public final class PromiseTests {
         throwsIt(x, 0, -1);
         throwsIt(new DarkestDay(), 0, 0);
 
-        promise = 8;
+        at = "promise 8";
         lawsHold();
 
-        promise = 9;
+        at = "promise 9";
         x = new DarkestDay();
         due("whim(2)", x.whim(2), false);
         due("whim(10)", x.whim(10), false);
@@ -413,9 +323,9 @@ public final class PromiseTests {
     // ---- promises 10 to 20: acts
 
     private static void actPromises() {
-        promise = 10;
+        at = "promise 10";
         passing();
-        promise = 11;
+        at = "promise 11";
         DarkestDay x = port("st2;k;k;p;ph1");
         due("habit(0, 1)", x.habit(0, 1), 0);
         due("habit(0, 0)", x.habit(0, 0), 1);
@@ -431,7 +341,7 @@ public final class PromiseTests {
         due("habit of one in bed", x.habit(1, 1), 0);
         due("the coin", x.count(9), 0);
 
-        promise = 12;
+        at = "promise 12";
         due("bed(0)", x.bed(0), 1);
         due("bed(1)", x.bed(1), 0);
         due("bed(1)", x.bed(1), 1);
@@ -442,7 +352,7 @@ public final class PromiseTests {
         due("for nothing", x.count(9), 0);
         due("without a seaport", new DarkestDay().bed(0), NONE);
 
-        promise = 13;
+        at = "promise 13";
         x = port("sf4t0;k;p;p");
         due("fog(9)", x.fog(9), 4);
         due("fog(9)", x.fog(9), NONE);
@@ -453,7 +363,7 @@ public final class PromiseTests {
         statuses(x, 0, 2, 1, 0, 0);
         due("without a seaport", new DarkestDay().fog(1), NONE);
 
-        promise = 14;
+        at = "promise 14";
         x = port("st19;k;p;p");
         due("eclipse", x.eclipse(), 9);
         due("light", x.light(0), 0);
@@ -471,13 +381,13 @@ public final class PromiseTests {
         statuses(x, 0, 0, 0, 1, 0);
         due("ten coins", port("st10;k;p;p").eclipse(), 0);
 
-        promise = 15;
+        at = "promise 15";
         candleActs();
-        promise = 16;
+        at = "promise 16";
         gifts();
-        promise = 17;
+        at = "promise 17";
         drawnYears();
-        promise = 18;
+        at = "promise 18";
         x = new DarkestDay();
         due("status(5)", x.status(5), NONE);
         due("status(-1)", x.status(-1), NONE);
@@ -485,9 +395,9 @@ public final class PromiseTests {
         x.give(0);
         due("the first reason counts", x.status(0), 2);
         due("and it alone", x.status(1), 0);
-        promise = 19;
+        at = "promise 19";
         undoing();
-        promise = 20;
+        at = "promise 20";
         logs();
     }
 
@@ -726,7 +636,7 @@ public final class PromiseTests {
     // ---- promises 21 to 23: calendars
 
     private static void calendarPromises() {
-        promise = 21;
+        at = "promise 21";
         DarkestDay x = new DarkestDay();
         tell(x, CALENDAR, "d;h12;b3;f4;e;c5");
         int[][] want = {{0, NONE, NONE}, {1, 1, 2}, {2, 3, NONE}, {3, 4, NONE}, {4, NONE, NONE}, {5, 5, NONE}};
@@ -742,7 +652,7 @@ public final class PromiseTests {
         due("step(0, 0, 3)", x.step(0, 0, 3), HIDDEN);
         due("step(0, 0, -1)", x.step(0, 0, -1), HIDDEN);
 
-        promise = 22;
+        at = "promise 22";
         due("without a seaport", x.run(0, 0), HIDDEN);
         tell(x, SEAPORT, FOUR_DAYS);
         tell(x, CALENDAR, "d;c4;h01;e;d;b2;f1;d;d");
@@ -776,7 +686,7 @@ public final class PromiseTests {
         x.years(17, 1);
         due("up to the last year", x.run(0, 0), 2);
 
-        promise = 23;
+        at = "promise 23";
         x = port(FOUR_DAYS);
         tell(x, CALENDAR, "d;c4;h01;e;d;b9;d");
         due("perform", x.perform(0), 5);
@@ -796,7 +706,7 @@ public final class PromiseTests {
     // ---- promises 24 to 31: what is to come
 
     private static void aheadPromises() {
-        promise = 24;
+        at = "promise 24";
         DarkestDay x = port(FOUR_DAYS);
         due("light(0)", x.light(0), 8);
         due("light(3)", x.light(3), 6);
@@ -810,7 +720,7 @@ public final class PromiseTests {
         due("without a seaport", new DarkestDay().light(0), NONE);
         due("half is cut", port("sd5;k;p;p").light(4), 8);
 
-        promise = 25;
+        at = "promise 25";
         due("the first of several", x.coming(0), 2);
         due("its light", x.coming(1), 0);
         x.fog(0);
@@ -822,7 +732,7 @@ public final class PromiseTests {
         due("coming(-1)", x.coming(-1), NONE);
         due("without a seaport", new DarkestDay().coming(0), NONE);
 
-        promise = 26;
+        at = "promise 26";
         x = port(FOUR_DAYS);
         due("may(0)", x.may(0), 4);
         due("may(1)", x.may(1), 14);
@@ -837,15 +747,15 @@ public final class PromiseTests {
         due("may(20)", x.may(20), 15);
         due("without a seaport", new DarkestDay().may(0), NONE);
 
-        promise = 27;
+        at = "promise 27";
         governing();
-        promise = 28;
+        at = "promise 28";
         rounds();
-        promise = 29;
+        at = "promise 29";
         swinging();
-        promise = 30;
+        at = "promise 30";
         inBed();
-        promise = 31;
+        at = "promise 31";
         coins();
     }
 
@@ -983,7 +893,7 @@ public final class PromiseTests {
     // ---- promises 32 to 34: what was seen
 
     private static void seenPromises() {
-        promise = 32;
+        at = "promise 32";
         DarkestDay x = port(FOUR_DAYS);
         due("n 0", x.seen(0, 5, true), NONE);
         due("n 61", x.seen(61, 5, true), NONE);
@@ -998,7 +908,7 @@ public final class PromiseTests {
         due("SEEN", x.count(14), 10);
         due("no act", x.count(16), 0);
 
-        promise = 33;
+        at = "promise 33";
         x = port(FOUR_DAYS);
         due("all may be", x.habits(0, NONE), 2);
         due("the second", x.habits(0, 1), 1);
@@ -1032,7 +942,7 @@ public final class PromiseTests {
         x.seen(60, 999, false);
         due("behind 60 days", x.habits(0, NONE), x.coins(60) < 999 ? 1 : 0);
 
-        promise = 34;
+        at = "promise 34";
         x = port(FOUR_DAYS);
         due("ask(0)", x.ask(0), 1);
         due("ask(3)", x.ask(3), NONE);
@@ -1060,7 +970,7 @@ public final class PromiseTests {
     // ---- promises 35 to 37: games and odds
 
     private static void gamePromises() {
-        promise = 35;
+        at = "promise 35";
         DarkestDay x = port(FOUR_DAYS);
         due("the first", x.game(0, 2, 0, 1, 0), 12 + 5);
         due("the second", x.game(0, 2, 0, 1, 1), 15);
@@ -1092,7 +1002,7 @@ public final class PromiseTests {
         due("takes no more", x.game(0, 1, 0, 0, 0), 5);
         due("takes no more", x.game(0, 1, 0, 0, 1), 5);
 
-        promise = 36;
+        at = "promise 36";
         x = port(FOUR_DAYS);
         due("rests", x.rests(0, 2, NONE), 2);
         due("the first", x.rests(0, 2, 0), 0);
@@ -1121,7 +1031,7 @@ public final class PromiseTests {
         due("unlike two", x.rests(0, 1, 0), 0);
         due("unlike two, the other way", x.rests(1, 0, NONE), 1);
 
-        promise = 37;
+        at = "promise 37";
         odds();
     }
 
@@ -1169,7 +1079,7 @@ public final class PromiseTests {
     // ---- promises 38 to 43
 
     private static void lastPromises() {
-        promise = 38;
+        at = "promise 38";
         DarkestDay x = port(FOUR_DAYS);
         due("no purses", x.shares(0, 100), 0);
         x.pass();
@@ -1185,7 +1095,7 @@ public final class PromiseTests {
         due("shares(3, 1)", x.shares(3, 1), NONE);
         due("shares(-1, 1)", x.shares(-1, 1), NONE);
 
-        promise = 39;
+        at = "promise 39";
         due("did(0, 0)", x.did(0, 0), 3);
         due("did(0, 1)", x.did(0, 1), 4);
         due("not over", x.did(1, 0), NONE);
@@ -1204,11 +1114,11 @@ public final class PromiseTests {
         due("another year", x.did(0, 0), NONE);
         due("without a seaport", new DarkestDay().did(0, 0), NONE);
 
-        promise = 40;
+        at = "promise 40";
         alls();
-        promise = 41;
+        at = "promise 41";
         images();
-        promise = 43;
+        at = "promise 43";
         due("count(17)", x.count(17), HIDDEN);
         due("count(-1)", x.count(-1), HIDDEN);
         x = port("sd5t33f2;k;k;kn0;p;p;p;p");
@@ -1273,9 +1183,9 @@ public final class PromiseTests {
     private static void images() {
         DarkestDay x = port(FOUR_DAYS);
         due("without a seaport", new DarkestDay().image(), NONE);
-        promise = 42;
+        at = "promise 42";
         due("no image", x.back(), NONE);
-        promise = 41;
+        at = "promise 41";
         passes(x, 6);
         x.fog(2);
         x.bed(1);
@@ -1295,7 +1205,7 @@ public final class PromiseTests {
         x.undo();
         passes(x, 7);
         x.whim(4);
-        promise = 42;
+        at = "promise 42";
         due("back", x.back(), 2);
         counts[16] = 0;
         counts[13] = 4;
@@ -1310,10 +1220,10 @@ public final class PromiseTests {
         x.pass();
         due("back again", x.back(), 2);
         x.pass();
-        promise = 41;
+        at = "promise 41";
         due("another image instead", x.image(), 3);
         x.pass();
-        promise = 42;
+        at = "promise 42";
         due("back to it", x.back(), 3);
         tell(x, SEAPORT, "k;p;p");
         due("of another seaport", x.back(), NONE);

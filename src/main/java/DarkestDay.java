@@ -573,7 +573,7 @@ public final class DarkestDay {
         void append(int word) {
             for (int shift = 24; shift >= 0; shift -= 8) {
                 int sign = word >> shift & 255;
-                if (sign != 0 && length < bytes.length) {
+                if (sign != 0 && length >= 0 && length < bytes.length) {
                     bytes[length] = sign;
                     length++;
                 }
@@ -831,7 +831,7 @@ public final class DarkestDay {
                 case '/': worth = b == 0 ? 0 : (long) a / b; break;
                 default: break;
             }
-            return (int) Math.max(-MOST_WORTH, Math.min(MOST_WORTH, worth));
+            return worth < -MOST_WORTH ? -MOST_WORTH : worth > MOST_WORTH ? MOST_WORTH : (int) worth;
         }
     }
 
